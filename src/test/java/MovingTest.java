@@ -176,7 +176,8 @@ public final class MovingTest {
         String[] helps = {"..d....", NONE, "...aK..", NONE, NONE, NONE, NONE};
         captures("a king that is not armed helps nobody", hall(13, 1, helps), 2, 16);
         captures("an armed one helps", hall(2, 1, helps), 2, 16, 17);
-        captures("the armed king at a corner", hall(2, 1, ".a.....", NONE, "..K....", NONE, NONE, NONE, NONE), 16, 2, 1);
+        captures("the armed king at a corner",
+                hall(2, 1, ".a.....", NONE, "..K....", NONE, NONE, NONE, NONE), 16, 2, 1);
         captures("the king at a corner", hall(0, 1, ".a.....", NONE, "..K....", NONE, NONE, NONE, NONE), 16, 2);
     }
 
