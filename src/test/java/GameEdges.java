@@ -228,7 +228,7 @@ final class GameEdges {
 
     private static void theThirdTimeWithTheSameSide() {
         Document.section(3, "with the same SIDE to move");
-        // The attacker takes two moves there and one back, so that the same board comes with the other side to move.
+        // The attacker takes one move there and two back, so that the same board comes with the other side to move.
         TaflHall hall = Halls.shuttle();
         hall.move(8, 10, 0);
         hall.move(39, 40, 0);
