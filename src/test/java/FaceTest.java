@@ -1,17 +1,12 @@
-import java.io.IOException;
 import java.lang.reflect.Constructor;
 import java.lang.reflect.Field;
 import java.lang.reflect.Method;
 import java.lang.reflect.Modifier;
-import java.nio.file.Files;
-import java.nio.file.Path;
 import java.util.Arrays;
 import java.util.TreeSet;
 
-/** The public face of the document, and those rules of LANGUAGE.md that can be seen from the text of the program. */
+/** The public face of the document, and that nothing else is seen (rule 1 of LANGUAGE.md). */
 public final class FaceTest {
-
-    private static final String SOURCE = "src/main/java/TaflHall.java";
 
     private static final String[] FACE = {
         "int begin(int) throws IllegalArgumentException",
@@ -38,17 +33,10 @@ public final class FaceTest {
         "long digest()",
     };
 
-    private static final String[] FORBIDDEN = {
-        "import ", "catch", "finally", "synchronized", "assert ", "->", "::", "Math.", "System.", "Object",
-        "instanceof", "@",
-    };
-
-    public static void main(String[] args) throws IOException {
+    public static void main(String[] args) {
         theFace();
         nothingElseIsSeen();
-        onlyConstantsAreStatic();
         namesArePrivatelyOthers();
-        wordsThatAreNotUsed();
         Checks.finish();
     }
 
@@ -93,16 +81,6 @@ public final class FaceTest {
         }
     }
 
-    private static void onlyConstantsAreStatic() {
-        TreeSet<String> allowed = new TreeSet<>(Arrays.asList("int", "long", "boolean", "char", "String"));
-        for (Field field : TaflHall.class.getDeclaredFields()) {
-            if (Modifier.isStatic(field.getModifiers())) {
-                Checks.same("final " + field.getName(), Modifier.isFinal(field.getModifiers()), true);
-                Checks.same("type of " + field.getName(), allowed.contains(field.getType().getSimpleName()), true);
-            }
-        }
-    }
-
     private static void namesArePrivatelyOthers() {
         TreeSet<String> face = new TreeSet<>();
         for (Method method : TaflHall.class.getMethods()) {
@@ -118,14 +96,5 @@ public final class FaceTest {
                 Checks.same("inside and public " + method.getName(), face.contains(method.getName()), false);
             }
         }
-    }
-
-    private static void wordsThatAreNotUsed() throws IOException {
-        String text = Files.readString(Path.of(SOURCE));
-        String code = text.replaceAll("/\\*\\*[^*]*\\*/", "").replaceAll("//[^\n]*", "");
-        for (String word : FORBIDDEN) {
-            Checks.same("the program has \"" + word + "\"", code.contains(word), false);
-        }
-        Checks.same("signs of 1 to 127 alone", text.chars().allMatch(sign -> sign >= 1 && sign <= 127), true);
     }
 }
